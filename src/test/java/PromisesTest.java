@@ -32,6 +32,7 @@ public final class PromisesTest {
         promise17Effects();
         promise18End();
         promise19Count();
+        fullTown();
         Due.finish("PromisesTest");
     }
 
@@ -262,9 +263,12 @@ public final class PromisesTest {
         due("10 move -1", NONE, book.move(-1, 2));
         due("10 move MAX", NONE, book.move(MAX, 2));
         due("10 thread", 15, book.thread());
+        // nets: -10, -1, 0, +11, 0
         book.heir(2, 1);
-        due("10 moves of the moment", 9, book.move(0, 2) - book.move(1, 2));
-        due("10 who gets now", 3, book.move(1, 1));
+        due("10 moves of the moment", 10, book.move(0, 2));
+        due("10 who gets now", 3, book.move(0, 1));
+        due("10 who pays second now", 1, book.move(1, 0));
+        due("10 no third now", NONE, book.move(2, 0));
     }
 
     private static void promise11Boat() {
@@ -447,6 +451,8 @@ public final class PromisesTest {
         faultIs("move 0 4;", 2, 7);
         faultIs("spare 1000;", 2, 6);
         faultIs("before 1000;", 2, 7);
+        faultIs("spare 9990;", 2, 6);
+        faultIs("before 99900;", 2, 7);
         faultIs("before 4294967296;", 2, 7);
         faultIs("cut 4294967296 0;", 2, 4);
         faultIs("cut 18446744073709551617 0;", 2, 4);
@@ -509,17 +515,16 @@ public final class PromisesTest {
     private static void promise15LongestRounds() {
         AdvanceBook book = town(0, 0, 0, 0, 0, 0, 0, 0, 0, 0);
         book.paper(0, 9, 1, 0);
-        int least = 0;
         for (int man = 0; man < 9; man++) {
             for (int paper = 0; paper < 4; paper++) {
                 book.paper(man, (man + 1) % 9, 999 - paper, 1);
             }
-            least = 999 + 998 + 997 + 996;
         }
+        int aroundTheRing = 999 + 998 + 997 + 996;
         due("15 all of the ring fail", 9, book.clear(false));
-        due("15 all drains away", least * 9 + 1, book.count(5));
+        due("15 all drains away", aroundTheRing * 9 + 1, book.count(5));
         for (int paper = 0; paper < 37; paper++) {
-            due("15 paid " + paper, paper == 0 ? 0 : 0, book.cleared(0, paper));
+            due("15 paid " + paper, 0, book.cleared(0, paper));
         }
         due("15 last to fail", 9, book.cleared(2, 8));
     }
@@ -554,7 +559,7 @@ public final class PromisesTest {
         book.heir(0, 1);
         due("16 as it was then", 10, book.cleared(0, 0));
         due("16 as he was then", 15, book.cleared(3, 0));
-        due("16 a new one", 1, book.clear(false) + 1);
+        due("16 a new one", 0, book.clear(false));
         due("16 takes its place", 0, book.cleared(0, 1));
         due("16 with the new man", 5, book.cleared(1, 2));
     }
@@ -662,5 +667,36 @@ public final class PromisesTest {
         book.end();
         due("19 ROUNDS stay", 2, book.count(5));
         due("19 PURSES together", 11, book.count(4));
+    }
+
+    // With ten men and forty papers each call works at the edge of what is held.
+    private static void fullTown() {
+        AdvanceBook book = town(50, 0, 0, 0, 0, 0, 0, 0, 0, 20);
+        for (int paper = 0; paper < 40; paper++) {
+            book.paper(paper % 10, (paper + 1) % 10, paper < 39 ? 10 : 999, paper / 10);
+        }
+        due("full: left", 39 * 10 + 999, book.count(3));
+        due("full: net of the first", 10 * 3 + 999 - 40, book.net(0));
+        due("full: net of the last", 10 - 999, book.net(9));
+        due("full: thread", 989, book.thread());
+        due("full: move", 989, book.move(0, 2));
+        due("full: boat", 1, book.boat(18, 9, 9, 511));
+        due("full: captain", 29, book.purse(9));
+        due("full: crew", 1, book.purse(8));
+        due("full: last paper", 999, Due.look(book, 39, 4));
+        due("full: no paper behind it", NO_PAPER, Due.look(book, 40, 4));
+        due("full: clear", 1, book.clear(false));
+        due("full: paid last", 40 + 29 - 30, book.cleared(0, 39));
+        due("full: fails", 1, book.cleared(2, 9));
+        due("full: owes", 960, book.cleared(3, 9));
+        due("full: no man behind him", NONE, book.cleared(3, 10));
+        due("full: no paper behind the last", NONE, book.cleared(0, 40));
+        Due.decree(book, "cut 3 100;");
+        due("full: enact", 9 * 10 + 999, book.enact());
+        due("full: end", 300, book.end());
+        due("full: purse", 29, book.purse(9));
+        Due.due("full: heir", true, book.heir(9, 0));
+        due("full: last debtor", 0, Due.look(book, 39, 0));
+        due("full: heir's purse", 51 + 29, book.purse(0));
     }
 }
