@@ -2,11 +2,22 @@ import java.nio.charset.StandardCharsets;
 
 /** What the tests share: comparing answers with those that are due, and feeding texts. */
 final class Due {
+    /** What look answers where the document wants IndexOutOfBoundsException. */
+    static final long NO_PAPER = Long.MIN_VALUE;
+    /** What look answers where the document wants NoSuchElementException. */
+    static final long NO_WHAT = Long.MAX_VALUE;
+
     private static final int WRONG_SHOWN = 40;
+    private static String sentence = "";
     private static int wrong = 0;
     private static int asked = 0;
 
     private Due() {
+    }
+
+    /** The document's sentence that the answers from now on are due by. */
+    static void says(String words) {
+        sentence = words + "\n    ";
     }
 
     static void due(String call, long want, long got) {
@@ -14,7 +25,7 @@ final class Due {
         if (got != want) {
             wrong++;
             if (wrong <= WRONG_SHOWN) {
-                System.out.println(call + " answered " + got + ", due is " + want);
+                System.out.println(sentence + call + " answered " + got + ", due is " + want);
             }
         }
     }
@@ -28,14 +39,14 @@ final class Due {
         System.exit(wrong == 0 ? 0 : 1);
     }
 
-    /** What look answers; MIN_VALUE for IndexOutOfBounds, MAX_VALUE for NoSuchElement. */
+    /** What look answers; NO_PAPER or NO_WHAT if it throws. */
     static long look(AdvanceBook book, int paper, int what) {
         try {
             return book.look(paper, what);
         } catch (IndexOutOfBoundsException e) {
-            return Long.MIN_VALUE;
+            return NO_PAPER;
         } catch (java.util.NoSuchElementException e) {
-            return Long.MAX_VALUE;
+            return NO_WHAT;
         }
     }
 
@@ -54,7 +65,8 @@ final class Due {
         return book.decree(bytes.length);
     }
 
-    private static int word(byte[] bytes, int from) {
+    /** Four bytes as a number, the highest first; 0 behind the last byte. */
+    static int word(byte[] bytes, int from) {
         int word = 0;
         for (int at = from; at < from + 4; at++) {
             word = word << 8 | (at < bytes.length ? bytes[at] & 255 : 0);

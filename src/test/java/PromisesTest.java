@@ -3,8 +3,8 @@ public final class PromisesTest {
     private static final int NONE = AdvanceBook.NONE;
     private static final int MAX = Integer.MAX_VALUE;
     private static final int MIN = Integer.MIN_VALUE;
-    private static final long NO_PAPER = Long.MIN_VALUE;
-    private static final long NO_WHAT = Long.MAX_VALUE;
+    private static final long NO_PAPER = Due.NO_PAPER;
+    private static final long NO_WHAT = Due.NO_WHAT;
 
     public static void main(String[] args) {
         promise1New();
