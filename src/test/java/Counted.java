@@ -37,10 +37,19 @@ final class Counted {
         byte[] bytes = text.getBytes(StandardCharsets.ISO_8859_1);
         int answer = NONE;
         for (int at = 0; at < bytes.length; at += 20) {
-            answer = feed(Due.word(bytes, at), Due.word(bytes, at + 4), Due.word(bytes, at + 8),
-                    Due.word(bytes, at + 12), Due.word(bytes, at + 16));
+            answer = feed(word(bytes, at), word(bytes, at + 4), word(bytes, at + 8),
+                    word(bytes, at + 12), word(bytes, at + 16));
         }
         return answer;
+    }
+
+    /** Four bytes as a number, the highest first; 0 behind the last byte. */
+    private static int word(byte[] bytes, int from) {
+        int word = 0;
+        for (int at = from; at < from + 4; at++) {
+            word = word << 8 | (at < bytes.length ? bytes[at] & 255 : 0);
+        }
+        return word;
     }
 
     int man(int purse) {

@@ -1,6 +1,6 @@
-import java.nio.charset.StandardCharsets;
+import java.util.NoSuchElementException;
 
-/** What the tests share: comparing answers with those that are due, and feeding texts. */
+/** What the tests share: comparing answers with those that are due. */
 final class Due {
     /** What look answers where the document wants IndexOutOfBoundsException. */
     static final long NO_PAPER = Long.MIN_VALUE;
@@ -43,34 +43,15 @@ final class Due {
     static long look(AdvanceBook book, int paper, int what) {
         try {
             return book.look(paper, what);
-        } catch (IndexOutOfBoundsException e) {
-            return NO_PAPER;
-        } catch (java.util.NoSuchElementException e) {
-            return NO_WHAT;
+        } catch (IndexOutOfBoundsException | NoSuchElementException e) {
+            // The machine's own ArrayIndexOutOfBoundsException must not pass for the document's.
+            if (e.getClass() == IndexOutOfBoundsException.class) {
+                return NO_PAPER;
+            }
+            if (e.getClass() == NoSuchElementException.class) {
+                return NO_WHAT;
+            }
+            throw e;
         }
-    }
-
-    static int feedBytes(AdvanceBook book, byte[] bytes) {
-        int answer = AdvanceBook.NONE;
-        for (int at = 0; at < bytes.length; at += 20) {
-            answer = book.feed(word(bytes, at), word(bytes, at + 4), word(bytes, at + 8),
-                    word(bytes, at + 12), word(bytes, at + 16));
-        }
-        return answer;
-    }
-
-    static int decree(AdvanceBook book, String text) {
-        byte[] bytes = text.getBytes(StandardCharsets.ISO_8859_1);
-        feedBytes(book, bytes);
-        return book.decree(bytes.length);
-    }
-
-    /** Four bytes as a number, the highest first; 0 behind the last byte. */
-    static int word(byte[] bytes, int from) {
-        int word = 0;
-        for (int at = from; at < from + 4; at++) {
-            word = word << 8 | (at < bytes.length ? bytes[at] & 255 : 0);
-        }
-        return word;
     }
 }

@@ -40,16 +40,8 @@ public final class PromisesTest {
         Due.due(call, want, got);
     }
 
-    private static AdvanceBook town(int... purses) {
-        AdvanceBook book = new AdvanceBook();
-        for (int purse : purses) {
-            book.man(purse);
-        }
-        return book;
-    }
-
     private static void promise1New() {
-        AdvanceBook book = new AdvanceBook();
+        Counted book = new Counted();
         due("1 MEN", 0, book.count(0));
         due("1 PAPERS", 0, book.count(1));
         due("1 TODAY", 0, book.count(2));
@@ -59,16 +51,16 @@ public final class PromisesTest {
         due("1 LINES", NONE, book.count(6));
         due("1 TAPE", -2, book.decree(1));
         due("1 first feed", 20, book.feed(0, 0, 0, 0, 0));
-        AdvanceBook other = town(7);
+        Counted other = Counted.town(7);
         due("1 objects are apart", 0, book.count(0));
         due("1 the other one", 1, other.count(0));
     }
 
     private static void promise2Feed() {
-        AdvanceBook book = new AdvanceBook();
+        Counted book = new Counted();
         // "cut 0 100;spare 999;" is just twenty bytes
-        due("2 feed", 20, Due.feedBytes(book, "cut 0 100;spare 999;".getBytes()));
-        due("2 feed again", 40, Due.feedBytes(book, "before 0;  move 3 0;".getBytes()));
+        due("2 feed", 20, book.feedText("cut 0 100;spare 999;"));
+        due("2 feed again", 40, book.feedText("before 0;  move 3 0;"));
         due("2 order of bytes", 4, book.decree(40));
         for (int fed = 20; fed <= 300; fed += 20) {
             due("2 feed to " + fed, fed, book.feed(0x3b202020, 0x20202020, 0x20202020, -1, -1));
@@ -78,7 +70,7 @@ public final class PromisesTest {
         due("2 all 300", NONE, book.decree(300));
         due("2 first byte", 0, book.fault(1));
         due("2 empty again", 20, book.feed(-1, -1, -1, -1, -1));
-        AdvanceBook high = new AdvanceBook();
+        Counted high = new Counted();
         // 'c' + 128 must not pass for 'c'
         high.feed(0xe3757420, 0x30203130, 0x3b202020, 0x20202020, 0x20202020);
         due("2 high bit", NONE, high.decree(20));
@@ -86,7 +78,7 @@ public final class PromisesTest {
     }
 
     private static void promise3Man() {
-        AdvanceBook book = new AdvanceBook();
+        Counted book = new Counted();
         due("3 purse below", NONE, book.man(-1));
         due("3 purse beyond", NONE, book.man(100000));
         due("3 purse MIN", NONE, book.man(MIN));
@@ -103,7 +95,7 @@ public final class PromisesTest {
     }
 
     private static void promise4Paper() {
-        AdvanceBook book = town(0, 0);
+        Counted book = Counted.town(0, 0);
         due("4 no debtor", NONE, book.paper(2, 0, 5, 0));
         due("4 no creditor", NONE, book.paper(0, 2, 5, 0));
         due("4 debtor -1", NONE, book.paper(-1, 0, 5, 0));
@@ -127,72 +119,72 @@ public final class PromisesTest {
     }
 
     private static void promise4Copies() {
-        AdvanceBook book = town(0, 0, 0);
+        Counted book = Counted.town(0, 0, 0);
         book.paper(0, 1, 30, 2);
         book.paper(0, 1, 30, 2);
-        due("4 copy", 1, Due.look(book, 1, 6));
-        due("4 nothing left of a copy", 0, Due.look(book, 1, 4));
-        due("4 coins of a copy as told", 30, Due.look(book, 1, 2));
+        due("4 copy", 1, book.look(1, 6));
+        due("4 nothing left of a copy", 0, book.look(1, 4));
+        due("4 coins of a copy as told", 30, book.look(1, 2));
         book.paper(0, 1, 30, 2);
-        due("4 copy of a copy", 1, Due.look(book, 2, 6));
+        due("4 copy of a copy", 1, book.look(2, 6));
         book.paper(0, 2, 30, 2);
-        due("4 other creditor", 0, Due.look(book, 3, 6));
+        due("4 other creditor", 0, book.look(3, 6));
         book.paper(2, 1, 30, 2);
-        due("4 other debtor", 0, Due.look(book, 4, 6));
+        due("4 other debtor", 0, book.look(4, 6));
         book.paper(0, 1, 31, 2);
-        due("4 other coins", 0, Due.look(book, 5, 6));
+        due("4 other coins", 0, book.look(5, 6));
         book.paper(0, 1, 30, 3);
-        due("4 other rank", 0, Due.look(book, 6, 6));
+        due("4 other rank", 0, book.look(6, 6));
         book.paper(1, 0, 30, 2);
-        due("4 the other way", 0, Due.look(book, 7, 6));
+        due("4 the other way", 0, book.look(7, 6));
         book.pass(1);
         book.paper(0, 1, 30, 2);
-        due("4 other day", 0, Due.look(book, 8, 6));
+        due("4 other day", 0, book.look(8, 6));
         due("4 left in all", 30 * 6 + 31, book.count(3));
-        Due.decree(book, "move 2 0;");
+        book.decree("move 2 0;");
         book.enact();
         book.paper(0, 1, 30, 2);
-        due("4 copy by the rank as told", 1, Due.look(book, 9, 6));
+        due("4 copy by the rank as told", 1, book.look(9, 6));
         book.paper(0, 1, 30, 0);
-        due("4 no copy by the rank as it is", 0, Due.look(book, 10, 6));
+        due("4 no copy by the rank as it is", 0, book.look(10, 6));
         book.heir(0, 2);
         book.paper(0, 1, 30, 2);
-        due("4 copy by the debtor as told", 1, Due.look(book, 11, 6));
+        due("4 copy by the debtor as told", 1, book.look(11, 6));
         book.paper(2, 1, 30, 0);
-        due("4 no copy by the debtor as he is", 0, Due.look(book, 12, 6));
+        due("4 no copy by the debtor as he is", 0, book.look(12, 6));
         book.end();
         book.paper(0, 1, 30, 2);
-        due("4 no copy behind the end", 0, Due.look(book, 13, 6));
+        due("4 no copy behind the end", 0, book.look(13, 6));
     }
 
     private static void promise5Look() {
-        AdvanceBook book = town(10, 0);
-        due("5 no paper yet", NO_PAPER, Due.look(book, 0, 0));
+        Counted book = Counted.town(10, 0);
+        due("5 no paper yet", NO_PAPER, book.look(0, 0));
         book.pass(3);
         book.paper(1, 0, 77, 2);
-        due("5 debtor", 1, Due.look(book, 0, 0));
-        due("5 creditor", 0, Due.look(book, 0, 1));
-        due("5 coins", 77, Due.look(book, 0, 2));
-        due("5 rank", 2, Due.look(book, 0, 3));
-        due("5 left", 77, Due.look(book, 0, 4));
-        due("5 day", 3, Due.look(book, 0, 5));
-        due("5 copy", 0, Due.look(book, 0, 6));
-        due("5 what 7", NO_WHAT, Due.look(book, 0, 7));
-        due("5 what -1", NO_WHAT, Due.look(book, 0, -1));
-        due("5 what MIN", NO_WHAT, Due.look(book, 0, MIN));
-        due("5 paper 1", NO_PAPER, Due.look(book, 1, 0));
-        due("5 paper -1", NO_PAPER, Due.look(book, -1, 0));
-        due("5 paper MAX", NO_PAPER, Due.look(book, MAX, 0));
-        due("5 paper first", NO_PAPER, Due.look(book, 1, 7));
-        Due.decree(book, "cut 2 10;move 2 3;");
+        due("5 debtor", 1, book.look(0, 0));
+        due("5 creditor", 0, book.look(0, 1));
+        due("5 coins", 77, book.look(0, 2));
+        due("5 rank", 2, book.look(0, 3));
+        due("5 left", 77, book.look(0, 4));
+        due("5 day", 3, book.look(0, 5));
+        due("5 copy", 0, book.look(0, 6));
+        due("5 what 7", NO_WHAT, book.look(0, 7));
+        due("5 what -1", NO_WHAT, book.look(0, -1));
+        due("5 what MIN", NO_WHAT, book.look(0, MIN));
+        due("5 paper 1", NO_PAPER, book.look(1, 0));
+        due("5 paper -1", NO_PAPER, book.look(-1, 0));
+        due("5 paper MAX", NO_PAPER, book.look(MAX, 0));
+        due("5 paper first", NO_PAPER, book.look(1, 7));
+        book.decree("cut 2 10;move 2 3;");
         book.enact();
-        due("5 coins as told", 77, Due.look(book, 0, 2));
-        due("5 rank as it is now", 3, Due.look(book, 0, 3));
-        due("5 left after a cut", 70, Due.look(book, 0, 4));
+        due("5 coins as told", 77, book.look(0, 2));
+        due("5 rank as it is now", 3, book.look(0, 3));
+        due("5 left after a cut", 70, book.look(0, 4));
     }
 
     private static void promise6Pass() {
-        AdvanceBook book = new AdvanceBook();
+        Counted book = new Counted();
         due("6 none", 0, book.pass(0));
         due("6 five", 5, book.pass(5));
         due("6 below", NONE, book.pass(-1));
@@ -207,7 +199,7 @@ public final class PromisesTest {
     }
 
     private static void promise7Purse() {
-        AdvanceBook book = town(12, 99999);
+        Counted book = Counted.town(12, 99999);
         due("7 first", 12, book.purse(0));
         due("7 second", 99999, book.purse(1));
         due("7 third", NONE, book.purse(2));
@@ -216,7 +208,7 @@ public final class PromisesTest {
     }
 
     private static void promise8Net() {
-        AdvanceBook book = town(500, 500, 500);
+        Counted book = Counted.town(500, 500, 500);
         book.paper(0, 1, 100, 0);
         book.paper(2, 1, 50, 3);
         book.paper(1, 0, 30, 1);
@@ -226,14 +218,14 @@ public final class PromisesTest {
         due("8 net 2", -50, book.net(2));
         due("8 no man", MIN, book.net(3));
         due("8 man -1", MIN, book.net(-1));
-        Due.decree(book, "cut 0 50;");
+        book.decree("cut 0 50;");
         due("8 a decree at hand is not in force", -70, book.net(0));
         book.enact();
         due("8 of what is left", -20, book.net(0));
     }
 
     private static void promise9Thread() {
-        AdvanceBook book = town(0, 0, 0, 0);
+        Counted book = Counted.town(0, 0, 0, 0);
         due("9 none", 0, book.thread());
         book.paper(0, 1, 100, 0);
         book.paper(1, 2, 100, 0);
@@ -246,7 +238,7 @@ public final class PromisesTest {
     }
 
     private static void promise10Move() {
-        AdvanceBook book = town(0, 0, 0, 0, 0);
+        Counted book = Counted.town(0, 0, 0, 0, 0);
         // nets: -10, +4, -5, +11, 0
         book.paper(0, 3, 10, 0);
         book.paper(2, 1, 4, 0);
@@ -272,7 +264,7 @@ public final class PromisesTest {
     }
 
     private static void promise11Boat() {
-        AdvanceBook book = town(0, 0, 0);
+        Counted book = Counted.town(0, 0, 0);
         due("11 gain -1", NONE, book.boat(-1, 0, 1, 0));
         due("11 gain 10000", NONE, book.boat(10000, 0, 1, 0));
         due("11 captain 3", NONE, book.boat(10, 3, 1, 0));
@@ -296,14 +288,14 @@ public final class PromisesTest {
         due("11 no gain", 0, book.boat(0, 0, 9, 6));
         due("11 too little for parts", 0, book.boat(10, 0, 9, 6));
         due("11 all to the captain", 38, book.purse(0));
-        AdvanceBook rich = town(99999);
+        Counted rich = Counted.town(99999);
         due("11 beyond a first purse", 9999, rich.boat(9999, 0, 1, 0));
         due("11 sum", 109998, rich.purse(0));
-        due("11 no men", NONE, new AdvanceBook().boat(1, 0, 1, 0));
+        due("11 no men", NONE, new Counted().boat(1, 0, 1, 0));
     }
 
     private static void promise12Heir() {
-        AdvanceBook book = town(10, 20, 30);
+        Counted book = Counted.town(10, 20, 30);
         book.paper(0, 1, 5, 0);
         book.paper(1, 0, 6, 0);
         book.paper(0, 2, 7, 1);
@@ -317,39 +309,39 @@ public final class PromisesTest {
         Due.due("12 heir", true, book.heir(0, 1));
         due("12 his purse", 0, book.purse(0));
         due("12 heir's purse", 30, book.purse(1));
-        due("12 between them", 0, Due.look(book, 0, 4));
-        due("12 between them back", 0, Due.look(book, 1, 4));
-        due("12 debtor", 1, Due.look(book, 2, 0));
-        due("12 creditor", 2, Due.look(book, 2, 1));
-        due("12 left to pay", 7, Due.look(book, 2, 4));
-        due("12 debtor of the other", 2, Due.look(book, 3, 0));
-        due("12 creditor goes too", 1, Due.look(book, 3, 1));
-        due("12 left to get", 8, Due.look(book, 3, 4));
-        due("12 papers between have the heir too", 1, Due.look(book, 0, 0));
-        due("12 on both sides", 1, Due.look(book, 1, 1));
+        due("12 between them", 0, book.look(0, 4));
+        due("12 between them back", 0, book.look(1, 4));
+        due("12 debtor", 1, book.look(2, 0));
+        due("12 creditor", 2, book.look(2, 1));
+        due("12 left to pay", 7, book.look(2, 4));
+        due("12 debtor of the other", 2, book.look(3, 0));
+        due("12 creditor goes too", 1, book.look(3, 1));
+        due("12 left to get", 8, book.look(3, 4));
+        due("12 papers between have the heir too", 1, book.look(0, 0));
+        due("12 on both sides", 1, book.look(1, 1));
         due("12 net of the man", 0, book.net(0));
         due("12 net of the heir", 1, book.net(1));
     }
 
     private static void promise12HeirAndOthers() {
-        AdvanceBook book = town(10, 20, 30);
+        Counted book = Counted.town(10, 20, 30);
         book.paper(0, 2, 7, 0);
         book.heir(0, 1);
         due("12 may have new ones", 1, book.paper(0, 1, 9, 0));
-        due("12 new one's left", 9, Due.look(book, 1, 4));
+        due("12 new one's left", 9, book.look(1, 4));
         due("12 boat for him", 4, book.boat(4, 0, 1, 0));
         due("12 new purse", 4, book.purse(0));
         book.heir(1, 2);
-        due("12 heir of the heir", 0, Due.look(book, 0, 4));
-        due("12 new paper's creditor", 2, Due.look(book, 1, 1));
+        due("12 heir of the heir", 0, book.look(0, 4));
+        due("12 new paper's creditor", 2, book.look(1, 1));
         due("12 purse goes on", 60, book.purse(2));
         due("12 clear with papers to oneself", 1, book.clear(false));
         due("12 paid", 4, book.cleared(0, 1));
     }
 
     private static void decreeIs(String text, int want) {
-        AdvanceBook book = new AdvanceBook();
-        due("13 decree(" + text + ")", want, Due.decree(book, text));
+        Counted book = new Counted();
+        due("13 decree(" + text + ")", want, book.decree(text));
         due("14 no fault(" + text + ")", 0, book.fault(0));
         due("14 no place(" + text + ")", NONE, book.fault(1));
         due("19 lines(" + text + ")", want, book.count(6));
@@ -372,11 +364,11 @@ public final class PromisesTest {
     }
 
     private static void promise13Tape() {
-        AdvanceBook book = new AdvanceBook();
+        Counted book = new Counted();
         due("13 below 0", -2, book.decree(-1));
         due("13 MIN", -2, book.decree(MIN));
         due("13 MAX", -2, book.decree(MAX));
-        Due.feedBytes(book, "cut 0 5;cut 0 6;".getBytes());
+        book.feedText("cut 0 5;cut 0 6;");
         due("13 too many", -2, book.decree(21));
         due("13 none at hand", NONE, book.count(6));
         due("13 the tape stays", 40, book.feed(0, 0, 0, 0, 0));
@@ -394,24 +386,24 @@ public final class PromisesTest {
         book.man(9);
         book.man(0);
         book.paper(0, 1, 10, 0);
-        Due.decree(book, "cut 0 50;");
-        Due.decree(book, "cut 0 90;cut 0 90;");
+        book.decree("cut 0 50;");
+        book.decree("cut 0 90;cut 0 90;");
         due("13 a draft with a fault is nothing", 0, book.clear(true));
         due("13 by the one at hand", 5, book.cleared(0, 0));
-        Due.decree(book, "");
+        book.decree("");
         due("13 an empty one cuts nothing", 1, book.clear(true));
     }
 
     private static void faultIs(String text, int fault, int place) {
-        AdvanceBook book = new AdvanceBook();
-        due("13 decree(" + text + ")", NONE, Due.decree(book, text));
+        Counted book = new Counted();
+        due("13 decree(" + text + ")", NONE, book.decree(text));
         due("14 fault(" + text + ")", fault, book.fault(0));
         due("14 place(" + text + ")", place, book.fault(1));
         due("13 no decree(" + text + ")", NONE, book.count(6));
     }
 
     private static void promise14Faults() {
-        AdvanceBook book = new AdvanceBook();
+        Counted book = new Counted();
         due("14 none yet", 0, book.fault(0));
         due("14 no place yet", NONE, book.fault(1));
         due("14 what 2", NONE, book.fault(2));
@@ -469,7 +461,7 @@ public final class PromisesTest {
     }
 
     private static void promise15Clear() {
-        AdvanceBook book = town(100, 0, 0);
+        Counted book = Counted.town(100, 0, 0);
         book.paper(0, 1, 60, 1);
         book.paper(0, 2, 60, 0);
         book.paper(0, 1, 10, 1);
@@ -482,30 +474,30 @@ public final class PromisesTest {
         due("15 first", 1, book.cleared(2, 0));
         due("15 second", 2, book.cleared(2, 1));
         due("15 rounds", 2, book.count(5));
-        AdvanceBook ring = town(0, 0, 0);
+        Counted ring = Counted.town(0, 0, 0);
         ring.paper(0, 1, 500, 0);
         ring.paper(1, 2, 500, 0);
         ring.paper(2, 0, 500, 0);
         due("15 a ring pays itself", 0, ring.clear(false));
         due("15 in full", 500, ring.cleared(0, 2));
         due("15 no rounds", 0, ring.count(5));
-        due("15 nobody", 0, new AdvanceBook().clear(true));
+        due("15 nobody", 0, new Counted().clear(true));
     }
 
     private static void promise15Beside() {
-        AdvanceBook book = town(50, 0, 0);
+        Counted book = Counted.town(50, 0, 0);
         book.paper(0, 1, 80, 2);
         book.paper(0, 2, 40, 1);
         due("15 without a decree as false", 1, book.clear(true));
         due("15 by rank", 40, book.cleared(0, 1));
         due("15 the rest", 10, book.cleared(0, 0));
-        Due.decree(book, "move 1 2;move 2 1;cut 2 50;spare 20;");
+        book.decree("move 1 2;move 2 1;cut 2 50;spare 20;");
         due("15 beside", 1, book.clear(true));
         due("15 cut by the rank of ahead", 50, book.cleared(0, 0));
         due("15 moved behind", 0, book.cleared(0, 1));
         due("15 owes of what the decree leaves", 40, book.cleared(3, 0));
-        due("15 nothing is in force", 80, Due.look(book, 0, 4));
-        due("15 rank as it was", 2, Due.look(book, 0, 3));
+        due("15 nothing is in force", 80, book.look(0, 4));
+        due("15 rank as it was", 2, book.look(0, 3));
         due("15 decree still at hand", 4, book.count(6));
         due("15 not beside", 1, book.clear(false));
         due("15 as things are", 40, book.cleared(0, 1));
@@ -513,7 +505,7 @@ public final class PromisesTest {
 
     // A ring of nine, through which a coin leaks a turn, is as slow as a CLEARING gets.
     private static void promise15LongestRounds() {
-        AdvanceBook book = town(0, 0, 0, 0, 0, 0, 0, 0, 0, 0);
+        Counted book = Counted.town(0, 0, 0, 0, 0, 0, 0, 0, 0, 0);
         book.paper(0, 9, 1, 0);
         for (int man = 0; man < 9; man++) {
             for (int paper = 0; paper < 4; paper++) {
@@ -530,7 +522,7 @@ public final class PromisesTest {
     }
 
     private static void promise16Cleared() {
-        AdvanceBook book = town(10, 0);
+        Counted book = Counted.town(10, 0);
         for (int what = -1; what < 5; what++) {
             due("16 none at hand", NONE, book.cleared(what, 0));
         }
@@ -554,7 +546,7 @@ public final class PromisesTest {
         due("16 k -1", NONE, book.cleared(0, -1));
         due("16 k MIN", NONE, book.cleared(1, MIN));
         due("16 k MAX", NONE, book.cleared(2, MAX));
-        Due.decree(book, "cut 0 100;");
+        book.decree("cut 0 100;");
         book.enact();
         book.heir(0, 1);
         due("16 as it was then", 10, book.cleared(0, 0));
@@ -565,24 +557,24 @@ public final class PromisesTest {
     }
 
     private static void promise17Enact() {
-        AdvanceBook book = town(0, 0);
+        Counted book = Counted.town(0, 0);
         due("17 none at hand", NONE, book.enact());
         book.paper(0, 1, 15, 0);
-        Due.decree(book, "");
+        book.decree("");
         due("17 an empty one", 0, book.enact());
         due("17 none behind it", NONE, book.enact());
-        Due.decree(book, "cut 0 50;");
+        book.decree("cut 0 50;");
         due("17 less", 7, book.enact());
-        due("17 left", 8, Due.look(book, 0, 4));
+        due("17 left", 8, book.look(0, 4));
         due("17 lines", NONE, book.count(6));
         book.paper(0, 1, 20, 0);
-        due("17 papers told later are whole", 20, Due.look(book, 1, 4));
+        due("17 papers told later are whole", 20, book.look(1, 4));
         due("17 beside without one", 1, book.clear(true));
         due("17 owes all", 28, book.cleared(3, 0));
     }
 
     private static void promise17Effects() {
-        AdvanceBook book = town(0, 0);
+        Counted book = Counted.town(0, 0);
         book.paper(0, 1, 100, 0);
         book.paper(0, 1, 100, 1);
         book.paper(0, 1, 30, 1);
@@ -591,35 +583,35 @@ public final class PromisesTest {
         book.paper(0, 1, 100, 2);
         book.pass(1);
         book.paper(0, 1, 100, 1);
-        Due.decree(book, "spare 30;cut 1 33;move 0 1;move 1 2;before 5;cut 2 100;");
+        book.decree("spare 30;cut 1 33;move 0 1;move 1 2;before 5;cut 2 100;");
         due("17 less in all", 23 + 70, book.enact());
         int[] lefts = {100, 77, 30, 0, 30, 100};
         int[] ranks = {1, 2, 2, 2, 2, 1};
         for (int paper = 0; paper < 6; paper++) {
-            due("17 left of " + paper, lefts[paper], Due.look(book, paper, 4));
-            due("17 rank of " + paper, ranks[paper], Due.look(book, paper, 3));
+            due("17 left of " + paper, lefts[paper], book.look(paper, 4));
+            due("17 rank of " + paper, ranks[paper], book.look(paper, 3));
         }
-        Due.decree(book, "before 0;cut 0 100;cut 1 100;cut 2 100;cut 3 100;");
+        book.decree("before 0;cut 0 100;cut 1 100;cut 2 100;cut 3 100;");
         due("17 ahead of day 0 is none", 0, book.enact());
-        Due.decree(book, "before 4;cut 2 100;spare 29;");
+        book.decree("before 4;cut 2 100;spare 29;");
         due("17 only those of day 0", 48 + 1, book.enact());
-        Due.decree(book, "cut 0 100;cut 1 100;cut 2 100;cut 3 100;");
+        book.decree("cut 0 100;cut 1 100;cut 2 100;cut 3 100;");
         due("17 all", 100 + 29 + 29 + 30 + 100, book.enact());
         due("17 nothing left", 0, book.count(3));
     }
 
     private static void promise18End() {
-        AdvanceBook book = town(50, 0, 7);
+        Counted book = Counted.town(50, 0, 7);
         book.paper(0, 1, 80, 2);
         book.paper(1, 2, 20, 1);
         book.paper(0, 2, 10, 3);
-        Due.decree(book, "cut 2 100;");
+        book.decree("cut 2 100;");
         book.clear(true);
         due("18 paid as things are", 70, book.end());
         due("18 next day", 1, book.count(2));
-        due("18 left", 30, Due.look(book, 0, 4));
-        due("18 left none", 0, Due.look(book, 1, 4));
-        due("18 left all", 10, Due.look(book, 2, 4));
+        due("18 left", 30, book.look(0, 4));
+        due("18 left none", 0, book.look(1, 4));
+        due("18 left all", 10, book.look(2, 4));
         due("18 purse 0", 0, book.purse(0));
         due("18 purse 1", 30, book.purse(1));
         due("18 purse 2", 27, book.purse(2));
@@ -630,14 +622,14 @@ public final class PromisesTest {
         due("18 the day goes on", 2, book.count(2));
         book.boat(35, 0, 1, 0);
         due("18 later", 35, book.end());
-        due("18 the last one in part", 5, Due.look(book, 2, 4));
+        due("18 the last one in part", 5, book.look(2, 4));
         book.pass(995);
         due("18 on day 998", 0, book.end());
         book.boat(9, 0, 1, 0);
         due("18 not on day 999", NONE, book.end());
         due("18 nothing happens then", 9, book.purse(0));
         due("18 the last day", 999, book.count(2));
-        AdvanceBook quiet = town(5, 0);
+        Counted quiet = Counted.town(5, 0);
         quiet.paper(0, 1, 5, 0);
         due("18 pays", 5, quiet.end());
         due("18 is no clearing at hand", NONE, quiet.count(5));
@@ -645,7 +637,7 @@ public final class PromisesTest {
     }
 
     private static void promise19Count() {
-        AdvanceBook book = town(5, 6, 0);
+        Counted book = Counted.town(5, 6, 0);
         book.pass(9);
         book.paper(0, 1, 10, 0);
         book.paper(0, 1, 10, 0);
@@ -662,7 +654,7 @@ public final class PromisesTest {
         due("19 what MAX", NONE, book.count(MAX));
         due("19 two fail", 2, book.clear(false));
         due("19 ROUNDS", 2, book.count(5));
-        Due.decree(book, "spare 1;before 3;");
+        book.decree("spare 1;before 3;");
         due("19 LINES", 2, book.count(6));
         book.end();
         due("19 ROUNDS stay", 2, book.count(5));
@@ -671,7 +663,7 @@ public final class PromisesTest {
 
     // With ten men and forty papers each call works at the edge of what is held.
     private static void fullTown() {
-        AdvanceBook book = town(50, 0, 0, 0, 0, 0, 0, 0, 0, 20);
+        Counted book = Counted.town(50, 0, 0, 0, 0, 0, 0, 0, 0, 20);
         for (int paper = 0; paper < 40; paper++) {
             book.paper(paper % 10, (paper + 1) % 10, paper < 39 ? 10 : 999, paper / 10);
         }
@@ -683,20 +675,20 @@ public final class PromisesTest {
         due("full: boat", 1, book.boat(18, 9, 9, 511));
         due("full: captain", 29, book.purse(9));
         due("full: crew", 1, book.purse(8));
-        due("full: last paper", 999, Due.look(book, 39, 4));
-        due("full: no paper behind it", NO_PAPER, Due.look(book, 40, 4));
+        due("full: last paper", 999, book.look(39, 4));
+        due("full: no paper behind it", NO_PAPER, book.look(40, 4));
         due("full: clear", 1, book.clear(false));
         due("full: paid last", 40 + 29 - 30, book.cleared(0, 39));
         due("full: fails", 1, book.cleared(2, 9));
         due("full: owes", 960, book.cleared(3, 9));
         due("full: no man behind him", NONE, book.cleared(3, 10));
         due("full: no paper behind the last", NONE, book.cleared(0, 40));
-        Due.decree(book, "cut 3 100;");
+        book.decree("cut 3 100;");
         due("full: enact", 9 * 10 + 999, book.enact());
         due("full: end", 300, book.end());
         due("full: purse", 29, book.purse(9));
         Due.due("full: heir", true, book.heir(9, 0));
-        due("full: last debtor", 0, Due.look(book, 39, 0));
+        due("full: last debtor", 0, book.look(39, 0));
         due("full: heir's purse", 51 + 29, book.purse(0));
     }
 }

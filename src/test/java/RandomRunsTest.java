@@ -8,7 +8,8 @@ import java.util.Set;
 /** Many runs of calls by chance, each answer compared with that of a model as literal as the document. */
 public final class RandomRunsTest {
     private static final int RUNS = 4000;
-    private static final int CALLS = 512;
+    // A text of 300 bytes: decree(0), fifteen times feed, decree, and fault twice.
+    private static final int MOST_CALLS_OF_A_STEP = 19;
 
     public static void main(String[] args) {
         for (int seed = 0; seed < RUNS; seed++) {
@@ -19,12 +20,11 @@ public final class RandomRunsTest {
 
     private final int seed;
     private final Random chance;
-    private final AdvanceBook book = new AdvanceBook();
+    private final Counted book = new Counted();
     private final Model model = new Model();
     // Small towns and sums make copies, rings and failures likely.
     private final int menWanted;
     private final int coinsWanted;
-    private int call = 0;
 
     private RandomRunsTest(int seed) {
         this.seed = seed;
@@ -36,19 +36,23 @@ public final class RandomRunsTest {
     private void run() {
         // The edges of the rows are only reached by towns that are full from early on.
         boolean full = chance.nextInt(3) == 0;
-        for (call = 0; call < CALLS; call++) {
-            if (full && call < 12) {
+        for (int early = 0; full && early < 60; early++) {
+            if (early < 12) {
                 stepMan();
-            } else if (full && call < 60) {
-                stepPaper();
             } else {
-                step();
+                stepPaper();
             }
+        }
+        while (book.calls() + MOST_CALLS_OF_A_STEP <= Counted.MOST_CALLS) {
+            step();
+        }
+        while (book.calls() < Counted.MOST_CALLS) {
+            stepOfOneCall();
         }
     }
 
     private void due(String what, long want, long got) {
-        Due.due("seed " + seed + " call " + call + ": " + what, want, got);
+        Due.due("seed " + seed + " call " + book.calls() + ": " + what, want, got);
     }
 
     private int odd(int least, int most) {
@@ -75,7 +79,15 @@ public final class RandomRunsTest {
     }
 
     private void step() {
-        switch (chance.nextInt(24)) {
+        if (chance.nextInt(12) == 0) {
+            stepDecree(Texts.some(chance));
+        } else {
+            stepOfOneCall();
+        }
+    }
+
+    private void stepOfOneCall() {
+        switch (chance.nextInt(22)) {
             case 0:
                 stepMan();
                 break;
@@ -112,34 +124,30 @@ public final class RandomRunsTest {
                 stepHeir();
                 break;
             case 11:
-            case 12:
-                stepDecree(Texts.some(chance));
-                break;
-            case 13:
                 stepFeed();
                 break;
-            case 14:
+            case 12:
                 int n = odd(0, 300);
                 due("decree " + n, model.decree(n), book.decree(n));
                 break;
-            case 15:
-            case 16:
+            case 13:
+            case 14:
                 boolean beside = chance.nextBoolean();
                 due("clear", model.clear(beside), book.clear(beside));
                 break;
-            case 17:
+            case 15:
                 stepEnact();
                 break;
-            case 18:
+            case 16:
                 if (chance.nextInt(3) == 0) {
                     due("end", model.end(), book.end());
                 }
                 break;
-            case 19:
+            case 17:
                 int faultWhat = odd(0, 1);
                 due("fault", model.fault(faultWhat), book.fault(faultWhat));
                 break;
-            case 20:
+            case 18:
                 int countWhat = odd(0, 6);
                 due("count " + countWhat, model.count(countWhat), book.count(countWhat));
                 break;
@@ -166,7 +174,7 @@ public final class RandomRunsTest {
     private void stepLook() {
         int paper = somePaper();
         int what = odd(0, 6);
-        due("look " + paper + " " + what, model.look(paper, what), Due.look(book, paper, what));
+        due("look " + paper + " " + what, model.look(paper, what), book.look(paper, what));
     }
 
     private void stepPass() {
